@@ -88,8 +88,8 @@ public final class GameCore {
 
     public GameCore() {
         memory = new Memory();
-        registers = new Registers();
-        sums = new Sums(registers);
+        sums = new Sums();
+        registers = sums.registers;
     }
 
     public boolean poke(int place, int v) {
@@ -227,7 +227,7 @@ public final class GameCore {
         }
     }
 
-    /** Gives the M-cycles beyond BASE_CYCLES, as do the methods below that give an int. */
+    /** Gives the M-cycles beyond BASE_CYCLES, as do the methods for single instructions. */
     private int execute(int opcode) {
         int row = (opcode >> 3) & 7;
         int column = opcode & 7;
@@ -286,7 +286,7 @@ public final class GameCore {
     private int executeLastQuarter(int row, int column) {
         switch (column) {
             case 0:
-                return row < 4 ? returnIf(holds(row)) : loadByHighPage(row);
+                return row < 4 ? returnIf(holds(row)) : executeWithByte(row);
             case 1:
                 popOrMove(row);
                 return 0;
@@ -345,7 +345,7 @@ public final class GameCore {
     }
 
     /** LDH (a8),A, ADD SP,e8, LDH A,(a8), LD HL,SP+e8. */
-    private int loadByHighPage(int row) {
+    private int executeWithByte(int row) {
         int v = fetch();
         switch (row) {
             case 4:
@@ -646,13 +646,9 @@ public final class GameCore {
         }
     }
 
-    /** Sums and shifts, with the flags that come of them. */
+    /** Sums and shifts over the registers, with the flags that come of them. */
     private static final class Sums {
-        private final Registers registers;
-
-        private Sums(Registers registers) {
-            this.registers = registers;
-        }
+        private final Registers registers = new Registers();
 
         /** ADD ADC SUB SBC AND XOR OR CP are 0 to 7. */
         void apply(int kind, int v) {
