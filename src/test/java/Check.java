@@ -19,6 +19,14 @@ final class Check {
         due(what, got ? 1 : 0, want ? 1 : 0);
     }
 
+    static void state(String what, GameCore core, int pc, int ime, int waits, int halt, int bug) {
+        due(what + ": PC", core.reg(5), pc);
+        due(what + ": IME", core.look(0), ime);
+        due(what + ": an EI waits", core.look(1), waits);
+        due(what + ": HALT", core.look(2), halt);
+        due(what + ": HALT BUG", core.look(3), bug);
+    }
+
     static int wrongSoFar() {
         return wrong;
     }

@@ -6,6 +6,11 @@ final class RunTest {
         haltCounts();
         wrongNumbers();
         mcyclesAddUp();
+        mostSteps();
+        lastStepThatCounts();
+        dispatchesCount();
+        sameAsSteps();
+        the512thCall();
         Check.end();
     }
 
@@ -57,5 +62,90 @@ final class RunTest {
             Check.due("run(2000) of CALL", core.run(2000), 2000);
         }
         Check.due("M-cycles", core.mcycles(), 250 * 2000 * 6);
+    }
+
+    /** "n at most (1 .. 2000)": both ends are taken, and both beyond are not. */
+    private static void mostSteps() {
+        GameCore core = new GameCore();
+        Check.due("run(0)", core.run(0), GameCore.NONE);
+        Check.due("run(1)", core.run(1), 1);
+        Check.due("PC behind run(1)", core.reg(5), 1);
+        Check.due("run(2001)", core.run(2001), GameCore.NONE);
+        Check.due("PC behind run(2001)", core.reg(5), 1);
+        Check.due("run(2000)", core.run(2000), 2000);
+        Check.due("PC behind run(2000)", core.reg(5), 2001);
+        Check.due("run(-1)", core.run(-1), GameCore.NONE);
+        Check.due("M-cycles", core.mcycles(), 2001);
+    }
+
+    /** "till one gives 2: how many gave 0 or 1": around n, and none at all. */
+    private static void lastStepThatCounts() {
+        for (int place : new int[] {0, 1, 2, 4, 5, 6, 1999, 2000}) {
+            for (int n : new int[] {1, 5, 2000}) {
+                GameCore core = new GameCore();
+                core.poke(place, 0xED);
+                int want = Math.min(place, n);
+                Check.due("run(" + n + ") with ED at " + place, core.run(n), want);
+                Check.due("its PC", core.reg(5), want);
+                Check.due("its M-cycles", core.mcycles(), want);
+                Check.due("its COUNTER", core.look(4), want % 256);
+            }
+        }
+        GameCore core = Check.program(0xC000, "76 D3");
+        core.poke(0xFFFF, 4);
+        core.poke(0xFF07, 5);
+        core.poke(0xFF05, 255);
+        Check.due("HALT, three in HALT, then 2", core.run(2000), 4);
+        Check.due("HALT stands", core.look(2), 1);
+    }
+
+    private static void dispatchesCount() {
+        GameCore core = Check.program(0xC000, "FB 00 D3");
+        core.set(4, 0xD000);
+        core.poke(0xFFFF, 3);
+        core.poke(0xFF0F, 3);
+        core.poke(0x40, 0xD9);
+        core.poke(0x48, 0xD9);
+        Check.due("EI, NOP, DISPATCH, RETI, DISPATCH, RETI, then 2", core.run(2000), 6);
+        Check.due("PC", core.reg(5), 0xC002);
+        Check.due("M-cycles", core.mcycles(), 2 + 5 + 4 + 5 + 4);
+    }
+
+    /** "STEPS one by one". */
+    private static void sameAsSteps() {
+        String bytes = "06 03 0E 10 0D 20 FD 05 20 F8 76 E8 05 CB 30 C5 D1 10";
+        GameCore ran = Check.program(0xC000, bytes);
+        GameCore stepped = Check.program(0xC000, bytes);
+        for (GameCore core : new GameCore[] {ran, stepped}) {
+            core.set(4, 0xD000);
+            core.poke(0xFFFF, 4);
+            core.poke(0xFF07, 6);
+            core.poke(0xFF05, 250);
+        }
+        int taken = ran.run(400);
+        int steps = 0;
+        while (steps < 400 && stepped.step() != 2) {
+            steps++;
+        }
+        Check.due("steps taken", taken, steps);
+        for (int i = 0; i < 6; i++) {
+            Check.due("reg(" + i + ") by run and by steps", ran.reg(i), stepped.reg(i));
+        }
+        for (int i = 0; i < 5; i++) {
+            Check.due("look(" + i + ") by run and by steps", ran.look(i), stepped.look(i));
+        }
+        Check.due("mcycles() by run and by steps", ran.mcycles(), stepped.mcycles());
+        Check.due("FF05 by run and by steps", ran.peek(0xFF05), stepped.peek(0xFF05));
+    }
+
+    /** "An object is used for at most 512 calls": the last of them still answers. */
+    private static void the512thCall() {
+        GameCore core = Check.program(0xC000, "18 FE");
+        int made = 3;
+        for (int calls = made + 1; calls <= 510; calls++) {
+            core.run(2000);
+        }
+        Check.due("the 511th call", core.reg(5), 0xC000);
+        Check.due("the 512th call", core.mcycles(), (510 - made) * 2000 * 3);
     }
 }

@@ -7,10 +7,18 @@ final class StepTest {
         flagsOfWords();
         decimals();
         shifts();
-        cycles();
         wraps();
         writesAndPushes();
         noInstructions();
+        edgesOfSums();
+        edgesOfDecimals();
+        edgesOfShifts();
+        edgesOfWordSums();
+        bytesAtHl();
+        popOfFlags();
+        bitsThatAreSoAlready();
+        halvesApart();
+        loadsByPairs();
         Check.end();
     }
 
@@ -124,75 +132,6 @@ final class StepTest {
         one("SET 5,C", "CB E9", 0x00F0, 0x0000, 0x00F0, 0x0020);
     }
 
-    /** M-cycles and PC behind one instruction at 1000 with the flags given. */
-    private static void costs(String bytes, int flags, int cycles, int pc) {
-        GameCore core = Check.program(1000, bytes);
-        core.set(0, flags);
-        core.set(3, 0xC100);
-        core.set(4, 0xD000);
-        core.poke(0xD000, 0xCD);
-        core.poke(0xD001, 0xAB);
-        core.step();
-        Check.due(bytes + " with flags " + flags + ": M-cycles", core.mcycles(), cycles);
-        Check.due(bytes + " with flags " + flags + ": PC", core.reg(5), pc);
-    }
-
-    private static void cycles() {
-        int[] conditionOff = {0x80, 0x00, 0x10, 0x00};
-        int[] conditionOn = {0x00, 0x80, 0x00, 0x10};
-        for (int i = 0; i < 4; i++) {
-            String row = Integer.toHexString(0x20 + 8 * i);
-            costs(row + " 10", conditionOn[i], 3, 1018);
-            costs(row + " 80", conditionOn[i], 3, 874);
-            costs(row + " 10", conditionOff[i], 2, 1002);
-            costs(Integer.toHexString(0xC2 + 8 * i) + " 34 12", conditionOn[i], 4, 0x1234);
-            costs(Integer.toHexString(0xC2 + 8 * i) + " 34 12", conditionOff[i], 3, 1003);
-            costs(Integer.toHexString(0xC4 + 8 * i) + " 34 12", conditionOn[i], 6, 0x1234);
-            costs(Integer.toHexString(0xC4 + 8 * i) + " 34 12", conditionOff[i], 3, 1003);
-            costs(Integer.toHexString(0xC0 + 8 * i), conditionOn[i], 5, 0xABCD);
-            costs(Integer.toHexString(0xC0 + 8 * i), conditionOff[i], 2, 1001);
-        }
-        costs("18 10", 0, 3, 1018);
-        costs("C3 34 12", 0, 4, 0x1234);
-        costs("E9", 0, 1, 0xC100);
-        costs("CD 34 12", 0, 6, 0x1234);
-        costs("C9", 0, 4, 0xABCD);
-        costs("D9", 0, 4, 0xABCD);
-        for (int i = 0; i < 8; i++) {
-            costs(Integer.toHexString(0xC7 + 8 * i), 0, 4, 8 * i);
-        }
-        String[] ones = {"00", "07", "27", "2F", "37", "3F", "04", "0D", "41", "7F", "80", "BF", "76", "F3", "FB"};
-        for (String bytes : ones) {
-            costs(bytes, 0, 1, 1001);
-        }
-        String[] twos = {"02", "1A", "22", "3A", "03", "3B", "09", "39", "46", "77", "86", "BE", "E2", "F2", "F9"};
-        for (String bytes : twos) {
-            costs(bytes, 0, 2, 1001);
-        }
-        String[] twosOfTwo = {"06 01", "3E 01", "C6 01", "FE 01", "CB 00", "CB 7F", "CB 80", "CB FF"};
-        for (String bytes : twosOfTwo) {
-            costs(bytes, 0, 2, 1002);
-        }
-        costs("34", 0, 3, 1001);
-        costs("35", 0, 3, 1001);
-        costs("C1", 0, 3, 1001);
-        costs("C5", 0, 4, 1001);
-        costs("36 01", 0, 3, 1002);
-        costs("E0 80", 0, 3, 1002);
-        costs("F0 80", 0, 3, 1002);
-        costs("F8 01", 0, 3, 1002);
-        costs("E8 01", 0, 4, 1002);
-        costs("CB 46", 0, 3, 1002);
-        costs("CB 06", 0, 4, 1002);
-        costs("CB 86", 0, 4, 1002);
-        costs("CB C6", 0, 4, 1002);
-        costs("01 34 12", 0, 3, 1003);
-        costs("31 34 12", 0, 3, 1003);
-        costs("08 34 12", 0, 5, 1003);
-        costs("EA 34 12", 0, 4, 1003);
-        costs("FA 34 12", 0, 4, 1003);
-    }
-
     private static void wraps() {
         GameCore core = new GameCore();
         Check.put(core, 0xFFFE, "01 34 12");
@@ -297,5 +236,202 @@ final class StepTest {
             refused += core.step() == 2 ? 1 : 0;
         }
         Check.due("opcodes that give 2", refused, none.length);
+    }
+
+    /** H from bit 3 and C from bit 7, at the last number without and the first with them. */
+    private static void edgesOfSums() {
+        one("ADD to 15", "C6 07", 0x08F0, 0, 0x0F00, 0);
+        one("ADD to 16", "C6 08", 0x0800, 0, 0x1020, 0);
+        one("ADD to 255", "C6 7F", 0x80F0, 0, 0xFF00, 0);
+        one("ADD to 256", "C6 80", 0x8000, 0, 0x0090, 0);
+        one("ADD of 255 and 255", "C6 FF", 0xFF00, 0, 0xFE30, 0);
+        one("ADC of 255, 255 and C", "CE FF", 0xFF10, 0, 0xFF30, 0);
+        one("ADC: C alone makes H", "CE 00", 0x0F10, 0, 0x1020, 0);
+        one("ADC: C alone makes both", "CE 00", 0xFF10, 0, 0x00B0, 0);
+        one("ADD to 1 has no Z", "C6 01", 0x0080, 0, 0x0100, 0);
+        one("ADD to 257 has no Z", "C6 02", 0xFF00, 0, 0x0130, 0);
+        one("SUB to 1 has no Z", "D6 01", 0x0280, 0, 0x0140, 0);
+        one("ADD leaves the C that was out", "C6 00", 0x0010, 0, 0x0080, 0);
+        one("SUB of itself", "97", 0xFF10, 0, 0x00C0, 0);
+        one("SUB of one more", "D6 01", 0x0000, 0, 0xFF70, 0);
+        one("SUB leaves the C that was out", "D6 01", 0x0210, 0, 0x0140, 0);
+        one("SUB at the low four bits", "D6 01", 0x1000, 0, 0x0F60, 0);
+        one("SBC: C alone makes H", "DE 00", 0x1010, 0, 0x0F60, 0);
+        one("SBC: C alone makes both", "DE 00", 0x0010, 0, 0xFF70, 0);
+        one("SBC of itself with C", "9F", 0x5510, 0, 0xFF70, 0);
+        one("SBC of itself without C", "9F", 0x5500, 0, 0x00C0, 0);
+        one("SBC 0 - 255 - C", "DE FF", 0x0010, 0, 0x00F0, 0);
+        one("CP leaves the C that was out", "FE 01", 0x0210, 0, 0x0240, 0);
+        one("CP of itself", "BF", 0x7710, 0, 0x77C0, 0);
+        one("AND to what is not 0", "E6 80", 0xFFD0, 0, 0x8020, 0);
+        one("XOR to what is not 0", "EE 01", 0xFFF0, 0, 0xFE00, 0);
+        one("OR of 0 and 0", "F6 00", 0x0070, 0, 0x0080, 0);
+        one("INC B to 16: H", "04", 0x0000, 0x0F00, 0x0020, 0x1000);
+        one("INC B to 15: no H", "04", 0x0070, 0x0E00, 0x0010, 0x0F00);
+        one("DEC B from 16: H", "05", 0x0000, 0x1000, 0x0060, 0x0F00);
+        one("DEC B from 17: no H", "05", 0x00B0, 0x1100, 0x0050, 0x1000);
+        one("INC C leaves B", "0C", 0x0000, 0x12FF, 0x00A0, 0x1200);
+        one("DEC C leaves B", "0D", 0x0000, 0x1200, 0x0060, 0x12FF);
+        one("CPL of 255", "2F", 0xFF00, 0, 0x0060, 0);
+        one("SCF with Z off", "37", 0x0160, 0, 0x0110, 0);
+        one("CCF with Z off", "3F", 0x0170, 0, 0x0100, 0);
+    }
+
+    /** "above 9", "above 153", "A (as it was)", and what wraps around 256 and 0. */
+    private static void edgesOfDecimals() {
+        one("DAA: low four bits of 9", "27", 0x0900, 0, 0x0900, 0);
+        one("DAA: low four bits of 10", "27", 0x0A00, 0, 0x1000, 0);
+        one("DAA of 153", "27", 0x9900, 0, 0x9900, 0);
+        one("DAA of 154", "27", 0x9A00, 0, 0x0090, 0);
+        one("DAA of 160", "27", 0xA000, 0, 0x0090, 0);
+        one("DAA of 144 with H", "27", 0x9020, 0, 0x9600, 0);
+        one("DAA of 153 with H", "27", 0x9920, 0, 0x9F00, 0);
+        one("DAA of 143 by its low bits", "27", 0x8F00, 0, 0x9500, 0);
+        one("DAA of 255", "27", 0xFF00, 0, 0x6510, 0);
+        one("DAA of 0 with H and C", "27", 0x0030, 0, 0x6610, 0);
+        one("DAA of 0", "27", 0x0000, 0, 0x0080, 0);
+        one("DAA: Z goes off", "27", 0x0180, 0, 0x0100, 0);
+        one("DAA with N below 0 by H", "27", 0x0060, 0, 0xFA40, 0);
+        one("DAA with N below 0 by C", "27", 0x0050, 0, 0xA050, 0);
+        one("DAA with N below 0 by both", "27", 0x0070, 0, 0x9A50, 0);
+        one("DAA with N: 10 stays", "27", 0x0A40, 0, 0x0A40, 0);
+        one("DAA with N: 255 stays", "27", 0xFF40, 0, 0xFF40, 0);
+        one("DAA with N to 0 by H", "27", 0x0660, 0, 0x00C0, 0);
+        one("DAA with N to 0 by C", "27", 0x6050, 0, 0x00D0, 0);
+    }
+
+    /** "RLCA, RRCA, RLA, RRA: Z off; RLC and so on of the CB page: Z as it comes", "SWAP: C off". */
+    private static void edgesOfShifts() {
+        String[] ofA = {"07", "0F", "17", "1F"};
+        for (String code : ofA) {
+            one(code + " of 0", code, 0x00E0, 0, 0x0000, 0);
+        }
+        one("RRA of 1 to 0", "1F", 0x0180, 0, 0x0010, 0);
+        for (int kind = 0; kind < 8; kind++) {
+            String code = "CB " + Integer.toHexString(8 * kind);
+            one(code + " of 0", code, 0x0060, 0x0000, 0x0080, 0x0000);
+        }
+        one("RLC B of 1", "CB 00", 0x0010, 0x0100, 0x0000, 0x0200);
+        one("RRC B of 128", "CB 08", 0x0010, 0x8000, 0x0000, 0x4000);
+        one("RL B: C goes in, Z off", "CB 10", 0x0090, 0x0000, 0x0000, 0x0100);
+        one("RR B: C goes in, Z off", "CB 18", 0x0090, 0x0000, 0x0000, 0x8000);
+        one("RL B of 128 to 0", "CB 10", 0x0000, 0x8000, 0x0090, 0x0000);
+        one("RR B of 1 to 0", "CB 18", 0x0000, 0x0100, 0x0090, 0x0000);
+        one("SRA B of 1 to 0", "CB 28", 0x0000, 0x0100, 0x0090, 0x0000);
+        one("SRA B of 129", "CB 28", 0x0000, 0x8100, 0x0010, 0xC000);
+        one("SRL B of 255", "CB 38", 0x0000, 0xFF00, 0x0010, 0x7F00);
+        one("SLA B of 255", "CB 20", 0x0000, 0xFF00, 0x0010, 0xFE00);
+        one("SWAP B of 15", "CB 30", 0x00F0, 0x0F00, 0x0000, 0xF000);
+        for (int bit = 0; bit < 8; bit++) {
+            String code = "CB " + Integer.toHexString(0x40 + 8 * bit);
+            one("BIT " + bit + " alone on, C on", code, 0x00D0, 256 << bit, 0x0030, 256 << bit);
+            one("BIT " + bit + " alone off, C off", code, 0x0040, 0xFF00 - (256 << bit), 0x00A0, 0xFF00 - (256 << bit));
+        }
+    }
+
+    /** "H from bit 11, C from bit 15, Z stays"; "H and C as of the low byte plus e8's byte without sign". */
+    private static void edgesOfWordSums() {
+        hl("ADD HL to 0FFF", "09", 0x0070, 0x0FFE, 1, 0x0FFF, 0x0000);
+        hl("ADD HL to 1000", "09", 0x0000, 0x0FFF, 1, 0x1000, 0x0020);
+        hl("ADD HL to FFFF", "09", 0x0080, 0xFFFE, 1, 0xFFFF, 0x0080);
+        hl("ADD HL to 0, Z stays off", "09", 0x0040, 0xFFFF, 1, 0x0000, 0x0030);
+        hl("ADD HL to 0, Z stays on", "09", 0x0080, 0x0000, 0, 0x0000, 0x0080);
+        sp("ADD SP to xx0F", "E8 01", 0x120E, 0, 0x120F, 0x0000);
+        sp("ADD SP to xx10", "E8 01", 0x120F, 0, 0x1210, 0x0020);
+        sp("ADD SP to xxFF", "E8 0F", 0x12F0, 0, 0x12FF, 0x0000);
+        sp("ADD SP over xxFF", "E8 01", 0x12FF, 0, 0x1300, 0x0030);
+        sp("ADD SP,-1: C where nothing is borrowed", "E8 FF", 0x1201, 0, 0x1200, 0x0030);
+        sp("ADD SP,-1: no C where it is", "E8 FF", 0x1200, 0, 0x11FF, 0x0000);
+        sp("ADD SP,-16: C without H", "E8 F0", 0x1211, 0, 0x1201, 0x0010);
+        sp("ADD SP,127", "E8 7F", 0x1200, 0, 0x127F, 0x0000);
+        sp("ADD SP,-128", "E8 80", 0x1200, 0, 0x1180, 0x0000);
+        sp("ADD SP,-128 with C", "E8 80", 0x1280, 0, 0x1200, 0x0010);
+        sp("ADD SP,0 has no Z", "E8 00", 0x0000, 0, 0x0000, 0x0000);
+        sp("LD HL,SP+0 has no Z", "F8 00", 0x0000, 0, 0x0000, 0x0000);
+        sp("LD HL,SP-1 with C", "F8 FF", 0x1201, 0x1200, 0x1201, 0x0030);
+    }
+
+    /** (HL) in place of a register, at the ends of memory. */
+    private static void bytesAtHl() {
+        for (int place : new int[] {0, 0xFFFF}) {
+            GameCore core = Check.program(0xC000, "34 35 CB FE CB 46 86 CB 36 CB BE");
+            core.set(3, place);
+            core.poke(place, 0xFF);
+            core.step();
+            Check.due("INC (HL) of 255 at " + place, core.peek(place), 0);
+            Check.due("its flags", core.reg(0), 0x00A0);
+            core.step();
+            Check.due("DEC (HL) of 0 at " + place, core.peek(place), 0xFF);
+            Check.due("its flags", core.reg(0), 0x0060);
+            core.poke(place, 0x02);
+            core.step();
+            Check.due("SET 7,(HL) at " + place, core.peek(place), 0x82);
+            core.step();
+            Check.due("BIT 0,(HL) at " + place, core.reg(0), 0x00A0);
+            core.step();
+            Check.due("ADD A,(HL) at " + place, core.reg(0), 0x8200);
+            core.step();
+            Check.due("SWAP (HL) at " + place, core.peek(place), 0x28);
+            core.poke(place, 0xFF);
+            core.step();
+            Check.due("RES 7,(HL) at " + place, core.peek(place), 0x7F);
+            Check.due("M-cycles at " + place, core.mcycles(), 3 + 3 + 4 + 3 + 2 + 4 + 4);
+        }
+    }
+
+    /** "POP AF: F's low four bits are 0", of AF alone. */
+    private static void popOfFlags() {
+        for (int low = 0; low < 16; low++) {
+            GameCore core = Check.program(0xC000, "F1 C1");
+            core.set(4, 0xD000);
+            core.feed(0xD000, low << 24 | 0x120000 | low << 8 | 0x34, 0, 0, 0);
+            core.run(2);
+            Check.due("POP AF of " + low, core.reg(0), 0x1200);
+            Check.due("POP BC of " + low, core.reg(1), 0x3400 + low);
+        }
+    }
+
+    private static void bitsThatAreSoAlready() {
+        for (int bit = 0; bit < 8; bit++) {
+            one("SET " + bit + " of 255", "CB " + Integer.toHexString(0xC0 + 8 * bit), 0x00F0, 0xFF55, 0x00F0, 0xFF55);
+            one("RES " + bit + " of 0", "CB " + Integer.toHexString(0x80 + 8 * bit), 0x0000, 0x0055, 0x0000, 0x0055);
+            one("SET " + bit + " of 0", "CB " + Integer.toHexString(0xC0 + 8 * bit), 0x0000, 0, 0x0000, 256 << bit);
+            one("RES " + bit + " of 255", "CB " + Integer.toHexString(0x80 + 8 * bit), 0x00F0, 0xFF00, 0x00F0, 0xFF00 - (256 << bit));
+        }
+    }
+
+    /** One half of a pair leaves the other. */
+    private static void halvesApart() {
+        one("LD B,d8 leaves C", "06 00", 0x0000, 0xFFFF, 0x0000, 0x00FF);
+        one("LD C,d8 leaves B", "0E 00", 0x0000, 0xFFFF, 0x0000, 0xFF00);
+        one("LD A,d8 leaves F", "3E 00", 0xFFF0, 0, 0x00F0, 0);
+        one("LD B,C", "41", 0x0000, 0x12FF, 0x0000, 0xFFFF);
+        one("LD A,B leaves F", "78", 0x00F0, 0xA500, 0xA5F0, 0xA500);
+    }
+
+    /** HL moves by (HL+) and (HL-) alone; LD SP,HL and JP HL leave it. */
+    private static void loadsByPairs() {
+        String[] codes = {"02", "0A", "12", "1A", "22", "2A", "32", "3A"};
+        int[] places = {0xD100, 0xD100, 0xD200, 0xD200, 0xD300, 0xD300, 0xD300, 0xD300};
+        int[] wantHl = {0xD300, 0xD300, 0xD300, 0xD300, 0xD301, 0xD301, 0xD2FF, 0xD2FF};
+        for (int i = 0; i < codes.length; i++) {
+            GameCore core = Check.program(0xC000, codes[i] + " F9 E9");
+            core.set(0, 0x5500);
+            core.set(1, 0xD100);
+            core.set(2, 0xD200);
+            core.set(3, 0xD300);
+            core.poke(places[i], 0x66);
+            core.step();
+            boolean loads = codes[i].endsWith("A");
+            Check.due(codes[i] + ": the place", core.peek(places[i]), loads ? 0x66 : 0x55);
+            Check.due(codes[i] + ": A", core.reg(0), loads ? 0x6600 : 0x5500);
+            Check.due(codes[i] + ": BC", core.reg(1), 0xD100);
+            Check.due(codes[i] + ": DE", core.reg(2), 0xD200);
+            Check.due(codes[i] + ": HL", core.reg(3), wantHl[i]);
+            core.run(2);
+            Check.due("LD SP,HL", core.reg(4), wantHl[i]);
+            Check.due("JP HL", core.reg(5), wantHl[i]);
+            Check.due("HL behind both", core.reg(3), wantHl[i]);
+        }
     }
 }

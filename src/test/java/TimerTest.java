@@ -9,6 +9,15 @@ final class TimerTest {
         oneByOne();
         inHalt();
         interruptComesBehind();
+        counterByEveryStep();
+        dividerAlone();
+        reloadOfNought();
+        reloadWrittenByTheSameStep();
+        overflowWithinADispatch();
+        overflowTwiceWithinAStep();
+        writeIsNoMultiple();
+        controlByEachBit();
+        timerOverItsOwnPlaces();
         Check.end();
     }
 
@@ -136,5 +145,169 @@ final class TimerTest {
         Check.due("DISPATCH of the timer", core.reg(5), 0x50);
         Check.due("M-cycles", core.mcycles(), 9);
         Check.due("COUNTER", core.look(4), 9);
+    }
+
+    /** "the COUNTER (0 .. 255, 0 at first) is 1 more (0 behind 255)"; FF04 at its multiples of 64. */
+    private static void counterByEveryStep() {
+        for (int part = 0; part < 4; part++) {
+            GameCore core = new GameCore();
+            if (part > 0) {
+                core.run(part * 150);
+            }
+            for (int i = 1; i <= 150; i++) {
+                core.step();
+                int done = part * 150 + i;
+                Check.due("COUNTER behind " + done, core.look(4), done % 256);
+                Check.due("FF04 behind " + done, core.peek(0xFF04), done / 64);
+            }
+        }
+    }
+
+    /** "FF04 is 1 more (a byte)": 255 becomes 0, and IF and FF05 hear nothing of it. */
+    private static void dividerAlone() {
+        for (int before : new int[] {0, 1, 127, 254, 255}) {
+            GameCore core = new GameCore();
+            core.run(63);
+            core.poke(0xFF04, before);
+            core.poke(0xFF06, 55);
+            core.step();
+            Check.due("FF04 behind " + before, core.peek(0xFF04), (before + 1) & 255);
+            Check.due("FF03 stays", core.peek(0xFF03), 0);
+            Check.due("FF05 stays", core.peek(0xFF05), 0);
+            Check.due("IF stays", core.peek(0xFF0F), 0);
+        }
+    }
+
+    private static void reloadOfNought() {
+        GameCore core = new GameCore();
+        core.poke(0xFF07, 5);
+        core.poke(0xFF05, 255);
+        core.run(4);
+        Check.due("FF05 by FF06 of 0", core.peek(0xFF05), 0);
+        Check.due("IF", core.peek(0xFF0F), 4);
+        core.poke(0xFF0F, 0);
+        core.run(4);
+        Check.due("FF05 goes on from 0", core.peek(0xFF05), 1);
+        Check.due("IF without overflow", core.peek(0xFF0F), 0);
+        core.run(254 * 4);
+        Check.due("FF05 at 255", core.peek(0xFF05), 255);
+        Check.due("IF at 255", core.peek(0xFF0F), 0);
+        core.run(4);
+        Check.due("FF05 behind 256 periods", core.peek(0xFF05), 0);
+        Check.due("IF behind 256 periods", core.peek(0xFF0F), 4);
+    }
+
+    /** The timer comes "behind each STEP", so it sees what the instruction has written. */
+    private static void reloadWrittenByTheSameStep() {
+        GameCore core = Check.program(0xC000, "00 E0 06");
+        core.set(0, 0x7700);
+        core.poke(0xFF07, 5);
+        core.poke(0xFF05, 255);
+        core.poke(0xFF06, 1);
+        core.run(2);
+        Check.due("FF05 by the FF06 that was written", core.peek(0xFF05), 0x77);
+        core = Check.program(0xC000, "00 E0 05");
+        core.set(0, 0xFF00);
+        core.poke(0xFF07, 5);
+        core.poke(0xFF06, 9);
+        core.run(2);
+        Check.due("FF05 overflows from what was written", core.peek(0xFF05), 9);
+        Check.due("IF", core.peek(0xFF0F), 4);
+        core = Check.program(0xC000, "00 E0 07");
+        core.poke(0xFF07, 5);
+        core.poke(0xFF05, 255);
+        core.run(2);
+        Check.due("FF05 when the timer is put off", core.peek(0xFF05), 255);
+        core = Check.program(0xC000, "00 E0 0F");
+        core.poke(0xFF07, 5);
+        core.poke(0xFF05, 255);
+        core.run(2);
+        Check.due("IF's bit 2 behind a write of 0", core.peek(0xFF0F), 4);
+    }
+
+    private static void overflowWithinADispatch() {
+        GameCore core = Check.program(0xC000, "FB 00");
+        core.run(2);
+        core.set(4, 0xD000);
+        core.poke(0xFFFF, 4);
+        core.request(2);
+        core.poke(0xFF07, 5);
+        core.poke(0xFF06, 33);
+        core.poke(0xFF05, 255);
+        core.step();
+        Check.due("PC", core.reg(5), 0x50);
+        Check.due("FF05 behind the DISPATCH", core.peek(0xFF05), 33);
+        Check.due("IF's bit 2 is 1 once more", core.peek(0xFF0F), 4);
+        Check.due("COUNTER", core.look(4), 7);
+    }
+
+    private static void overflowTwiceWithinAStep() {
+        GameCore core = Check.program(0xC000, "00 00 CD 00 D0");
+        core.set(4, 0xE000);
+        core.poke(0xFF07, 5);
+        core.poke(0xFF05, 255);
+        core.poke(0xFF06, 255);
+        core.run(3);
+        Check.due("FF05 behind two overflows", core.peek(0xFF05), 255);
+        Check.due("IF", core.peek(0xFF0F), 4);
+        core.poke(0xFF06, 254);
+        core.poke(0xFF05, 255);
+        core.run(4);
+        Check.due("FF05 behind one", core.peek(0xFF05), 254);
+    }
+
+    /** A WRITE makes the COUNTER 0, but no M-cycle has come to a multiple by that. */
+    private static void writeIsNoMultiple() {
+        for (int select = 0; select < 4; select++) {
+            GameCore core = Check.program(0xC000, "00 00 77");
+            core.set(3, 0xFF04);
+            core.poke(0xFF07, 4 + select);
+            core.run(3);
+            Check.due("FF04 behind its WRITE", core.peek(0xFF04), 0);
+            Check.due("FF05 behind FF04's WRITE", core.peek(0xFF05), 0);
+            Check.due("COUNTER behind FF04's WRITE", core.look(4), 2);
+        }
+        GameCore core = new GameCore();
+        core.run(62);
+        Check.put(core, 62, "77");
+        core.set(3, 0xFF04);
+        core.step();
+        core.run(61);
+        Check.due("FF04 at 63 M-cycles behind its WRITE", core.peek(0xFF04), 0);
+        core.step();
+        Check.due("FF04 at 64 M-cycles behind its WRITE", core.peek(0xFF04), 1);
+    }
+
+    /** "if FF07 has bit 2", "by FF07's lowest two bits"; its other bits count for nothing. */
+    private static void controlByEachBit() {
+        int[] within2000 = {7, 500, 125, 31};
+        for (int control = 0; control < 256; control++) {
+            GameCore core = new GameCore();
+            core.poke(0xFF07, control);
+            core.poke(0xFF06, 1);
+            core.run(2000);
+            int counted = (control & 4) == 0 ? 0 : within2000[control & 3];
+            boolean over = counted > 255;
+            Check.due("FF05 with FF07 of " + control, core.peek(0xFF05), over ? counted - 255 : counted);
+            Check.due("IF with FF07 of " + control, core.peek(0xFF0F), over ? 4 : 0);
+            Check.due("FF07 stays", core.peek(0xFF07), control);
+            Check.due("FF04", core.peek(0xFF04), 31);
+        }
+    }
+
+    /** A push over FF05, FF06 and FF07 is seen by its own M-cycles. */
+    private static void timerOverItsOwnPlaces() {
+        GameCore core = Check.program(0xC000, "C5 D5");
+        core.set(1, 0x0500);
+        core.set(2, 0x42FF);
+        core.set(4, 0xFF08);
+        core.poke(0xFF06, 9);
+        core.step();
+        Check.due("FF07 and FF06 are pushed", core.peek(0xFF07) * 256 + core.peek(0xFF06), 0x0500);
+        Check.due("FF05 by the fourth M-cycle", core.peek(0xFF05), 1);
+        core.set(4, 0xFF07);
+        core.step();
+        Check.due("FF05 by the eighth", core.peek(0xFF05), 0x42);
+        Check.due("IF", core.peek(0xFF0F), 4);
     }
 }
