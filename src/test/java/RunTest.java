@@ -11,6 +11,7 @@ final class RunTest {
         dispatchesCount();
         sameAsSteps();
         the512thCall();
+        mcyclesWrap();
         Check.end();
     }
 
@@ -147,5 +148,30 @@ final class RunTest {
         }
         Check.due("the 511th call", core.reg(5), 0xC000);
         Check.due("the 512th call", core.mcycles(), (510 - made) * 2000 * 3);
+    }
+
+    /**
+     * "modulo 2 to the 30". No 512 calls come that far, and beyond them all answers are free; but
+     * this is the only way to see the wrap, so this one object is used for longer.
+     */
+    private static void mcyclesWrap() {
+        int wrap = 1 << 30;
+        int perRun = 2000 * 6;
+        GameCore core = Check.program(0xC000, "CD 00 C0");
+        for (int i = 0; i < wrap / perRun; i++) {
+            core.set(4, 0xF000);
+            core.run(2000);
+        }
+        int done = wrap / perRun * perRun;
+        Check.due("M-cycles behind all runs", core.mcycles(), done);
+        core.set(4, 0xF000);
+        core.run((wrap - 1 - done) / 6);
+        core.set(5, 0x1000);
+        core.run((wrap - 1 - done) % 6);
+        Check.due("the last number below 2 to the 30", core.mcycles(), wrap - 1);
+        core.step();
+        Check.due("0 behind it", core.mcycles(), 0);
+        core.step();
+        Check.due("1 behind that", core.mcycles(), 1);
     }
 }
