@@ -85,11 +85,7 @@ final class RefusedTest {
     }
 
     private static void refused(About about, String what, ToIntFunction<GameCore> call, int want) {
-        if (about == About.IME_ON) {
-            Twins.stayAlike(about + ": " + what, () -> make(about, 0), call, want);
-        } else {
-            Twins.stayAlikeNearby(about + ": " + what, () -> make(about, 0), call, want);
-        }
+        Twins.stayAlike(about + ": " + what, () -> make(about, 0), call, want);
     }
 
     private static int number(boolean answer) {
@@ -135,13 +131,13 @@ final class RefusedTest {
     /** Promises 4, 8 and 10: "NONE for another place", "for another one", "for another what". */
     private static void answersOfNone(About about) {
         for (int place : WRONG_PLACES) {
-            Twins.stayAlikeNearby(about + ": peek(" + place + ")", () -> make(about, 0), core -> core.peek(place), GameCore.NONE);
+            refused(about, "peek(" + place + ")", core -> core.peek(place), GameCore.NONE);
         }
         for (int i : WRONG_REGISTERS) {
-            Twins.stayAlikeNearby(about + ": reg(" + i + ")", () -> make(about, 0), core -> core.reg(i), GameCore.NONE);
+            refused(about, "reg(" + i + ")", core -> core.reg(i), GameCore.NONE);
         }
         for (int what : WRONG_LOOKS) {
-            Twins.stayAlikeNearby(about + ": look(" + what + ")", () -> make(about, 0), core -> core.look(what), GameCore.NONE);
+            refused(about, "look(" + what + ")", core -> core.look(what), GameCore.NONE);
         }
     }
 
@@ -150,8 +146,8 @@ final class RefusedTest {
         for (int opcode : NO_INSTRUCTIONS) {
             String what = about + " at " + Integer.toHexString(opcode);
             Twins.stayAlike(what + ": step()", () -> make(about, opcode), GameCore::step, 2);
-            Twins.stayAlikeNearby(what + ": run(1)", () -> make(about, opcode), core -> core.run(1), 0);
-            Twins.stayAlikeNearby(what + ": run(2000)", () -> make(about, opcode), core -> core.run(2000), 0);
+            Twins.stayAlike(what + ": run(1)", () -> make(about, opcode), core -> core.run(1), 0);
+            Twins.stayAlike(what + ": run(2000)", () -> make(about, opcode), core -> core.run(2000), 0);
             goesOnWhenTheByteIsMended(what, about, opcode);
         }
     }

@@ -4,7 +4,6 @@ import java.util.function.ToIntFunction;
 /** Two objects made alike, of which one gets a call more that must change nothing. */
 final class Twins {
     private static final int CHUNK = 400;
-    private static final int[] LIVELY = {0, 0x7FF0, 0xBFF0, 0xC000, 0xCFF0, 0xD000, 0xFF00, 0xFF10, 0xFFE0, 0xFFF0};
 
     private Twins() {
     }
@@ -17,18 +16,14 @@ final class Twins {
             Check.due(what, call.applyAsInt(called), want);
             compareMemory(what, called, other, first, Math.min(first + CHUNK, 65536));
         }
-        stayAlikeNearby(what, maker, call, want);
+        goOnAlike(what, maker, call, want);
     }
 
-    /** Looks at the places that a call could reach by mistake, then lets both go on. */
-    static void stayAlikeNearby(String what, Supplier<GameCore> maker, ToIntFunction<GameCore> call, int want) {
+    private static void goOnAlike(String what, Supplier<GameCore> maker, ToIntFunction<GameCore> call, int want) {
         GameCore called = maker.get();
         GameCore other = maker.get();
         Check.due(what, call.applyAsInt(called), want);
         compareState(what, called, other);
-        for (int place : LIVELY) {
-            compareMemory(what, called, other, place, place + 16);
-        }
         Check.due(what + ", then run(50)", called.run(50), other.run(50));
         compareState(what + ", then run(50)", called, other);
     }
