@@ -6,7 +6,9 @@ import java.lang.reflect.Modifier;
 import java.nio.file.Files;
 import java.nio.file.Path;
 import java.util.Arrays;
+import java.util.List;
 import java.util.TreeSet;
+import java.util.regex.Matcher;
 import java.util.regex.Pattern;
 
 /** The public face as the document has it, and the rules of LANGUAGE.md that a look can tell. */
@@ -20,10 +22,24 @@ final class FaceTest {
         "throw", "throws", "try", "catch", "synchronized", "assert", "import", "package", "protected", "->", "::"
     };
 
+    private static final List<Class<?>> STATIC_TYPES = List.of(
+        int.class, long.class, boolean.class, char.class, String.class,
+        int[].class, long[].class, char[].class, byte[].class);
+    private static final List<String> LIBRARY = List.of("Math");
+    private static final int MOST_CLASSES = 12;
+    private static final int MOST_FIELDS = 20;
+    private static final int MOST_LINES = 60;
+
     public static void main(String[] args) throws IOException {
         methods();
         members();
-        words();
+        sizes();
+        String text = Files.readString(Path.of("src/main/java/GameCore.java"));
+        String code = text.replaceAll("(?s)/\\*.*?\\*/", "").replaceAll("//.*", "");
+        words(code);
+        library(code);
+        makesNothingBesideConstructors(code);
+        shortMethods(code);
         Check.end();
     }
 
@@ -73,15 +89,72 @@ final class FaceTest {
         for (Field field : owner.getDeclaredFields()) {
             int modifiers = field.getModifiers();
             Check.due("final if static: " + field, !Modifier.isStatic(modifiers) || Modifier.isFinal(modifiers), true);
+            boolean mayBe = !Modifier.isStatic(modifiers) || STATIC_TYPES.contains(field.getType());
+            Check.due("type if static: " + field, mayBe, true);
         }
     }
 
-    private static void words() throws IOException {
-        String text = Files.readString(Path.of("src/main/java/GameCore.java"));
-        String code = text.replaceAll("(?s)/\\*.*?\\*/", "").replaceAll("//.*", "");
+    private static void sizes() {
+        Class<?>[] inner = GameCore.class.getDeclaredClasses();
+        Check.due("classes", inner.length + 1 <= MOST_CLASSES, true);
+        Check.due("fields of " + GameCore.class, fieldsOf(GameCore.class) <= MOST_FIELDS, true);
+        for (Class<?> owner : inner) {
+            Check.due("fields of " + owner, fieldsOf(owner) <= MOST_FIELDS, true);
+        }
+    }
+
+    private static int fieldsOf(Class<?> owner) {
+        int count = 0;
+        for (Field field : owner.getDeclaredFields()) {
+            count += Modifier.isStatic(field.getModifiers()) ? 0 : 1;
+        }
+        return count;
+    }
+
+    private static void words(String code) {
         for (String word : FORBIDDEN) {
             String pattern = Character.isLetter(word.charAt(0)) ? "\\b" + word + "\\b" : Pattern.quote(word);
             Check.due("'" + word + "' in the class", Pattern.compile(pattern).matcher(code).find(), false);
         }
+    }
+
+    /** Names with a small letter in them that are no class of GameCore's own. */
+    private static void library(String code) {
+        TreeSet<String> own = new TreeSet<>(LIBRARY);
+        own.add("GameCore");
+        for (Class<?> inner : GameCore.class.getDeclaredClasses()) {
+            own.add(inner.getSimpleName());
+        }
+        Matcher name = Pattern.compile("\\b[A-Z]\\w*[a-z]\\w*").matcher(code);
+        while (name.find()) {
+            Check.due("'" + name.group() + "' may be used", own.contains(name.group()), true);
+        }
+    }
+
+    /** All calls of a run share one room, so no call but the constructor makes anything. */
+    private static void makesNothingBesideConstructors(String code) {
+        TreeSet<String> made = new TreeSet<>();
+        Matcher making = Pattern.compile("\\bnew\\s+\\w+").matcher(code);
+        int count = 0;
+        while (making.find()) {
+            made.add(making.group());
+            count++;
+        }
+        TreeSet<String> due = new TreeSet<>(List.of("new Memory", "new Registers", "new Sums", "new byte", "new int"));
+        Check.due("what is made: " + made, made.equals(due), true);
+        Check.due("each in one place", count, due.size());
+    }
+
+    /** A method's first and last lines stand at the same depth, four or eight blanks in. */
+    private static void shortMethods(String code) {
+        Pattern method = Pattern.compile("(?m)^( {4}| {8})(?:\\w+(?:\\[\\])? )*(\\w+)\\([^;{]*\\) \\{$(?s:.*?)^\\1\\}$");
+        Matcher found = method.matcher(code);
+        int count = 0;
+        while (found.find()) {
+            count++;
+            long lines = found.group().lines().count();
+            Check.due("lines of " + found.group(2) + ", " + lines, lines <= MOST_LINES, true);
+        }
+        Check.due("methods found", count > 60, true);
     }
 }
